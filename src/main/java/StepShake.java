@@ -380,6 +380,7 @@ public final class StepShake {
                         done |= 1 << t;
                     }
                 }
+                // At an s that it sends no DH of that s is done without a lower fault, so only the ends need a look.
                 if (sealsTooSoon(hand, done)) {
                     lowest = Math.min(lowest, 5);
                 }
@@ -399,10 +400,7 @@ public final class StepShake {
         private static int faultAt(int t, int hand, int keys, int done) {
             if (t == E || t == S) {
                 // An s known ahead is among the keys from the beginning, so to send it is to send it twice.
-                if ((keys & keyBit(t, hand)) != 0) {
-                    return 2;
-                }
-                return t == S && sealsTooSoon(hand, done) ? 5 : NO_FAULT;
+                return (keys & keyBit(t, hand)) != 0 ? 2 : NO_FAULT;
             }
             if ((keys & NEEDS[t]) != NEEDS[t]) {
                 return 3;
