@@ -242,8 +242,11 @@ public final class StepShake {
         return number >= 0 && number < sideCount ? sides[number] : null;
     }
 
-    private static long fourBytes(int[] from, int at) {
-        return (from[at] | from[at + 1] << 8 | from[at + 2] << 16 | from[at + 3] << 24) & 0xffffffffL;
+    /** Bits of a number whose lowest byte is first; they must lie within four bytes. */
+    private static long bitsOf(int[] from, int start, int width) {
+        int at = start >> 3;
+        long four = from[at] | from[at + 1] << 8 | from[at + 2] << 16 | (long) from[at + 3] << 24;
+        return four >> (start & 7) & (1L << width) - 1;
     }
 
     private static void copyKey(int[] from, int[] to) {
@@ -630,9 +633,11 @@ public final class StepShake {
                     at += KEY_SIZE;
                 } else if (t == S) {
                     int end = at + (trial.hasKey ? KEY_SIZE + TAG_SIZE : KEY_SIZE);
-                    if (!takeS(letter, at, end)) {
+                    if (!open(trial, letter, at, end, opened)) {
                         return false;
                     }
+                    copyKey(opened.bytes, trial.otherS);
+                    trial.knowsS = true;
                     at = end;
                 } else {
                     mixDh(side, trial, t);
@@ -675,15 +680,6 @@ public final class StepShake {
             System.arraycopy(letter.bytes, at, trial.otherE, 0, KEY_SIZE);
             trial.knowsE = true;
             mixHash(trial, trial.otherE, 0, KEY_SIZE);
-        }
-
-        private boolean takeS(Row letter, int at, int end) {
-            if (!open(trial, letter, at, end, opened)) {
-                return false;
-            }
-            copyKey(opened.bytes, trial.otherS);
-            trial.knowsS = true;
-            return true;
         }
 
         private void mixHash(State state, int[] from, int start, int end) {
@@ -800,13 +796,15 @@ public final class StepShake {
             for (int i = 0; i < zeros; i++) {
                 addByte(0);
             }
-            addNumber(bits);
+            for (int shift = 24; shift >= 0; shift -= 8) {
+                addByte(bits >>> shift & 255);
+            }
             for (int i = 0; i < KEY_SIZE; i++) {
                 out[i] = sums[i >> 2] >>> 24 - 8 * (i & 3) & 255;
             }
         }
 
-        private void spreadWords() {
+        private void addBlock() {
             for (int i = 16; i < 64; i++) {
                 int x = words[i - 15];
                 int y = words[i - 2];
@@ -814,10 +812,6 @@ public final class StepShake {
                 int high = (y >>> 17 | y << 15) ^ (y >>> 19 | y << 13) ^ y >>> 10;
                 words[i] = words[i - 16] + low + words[i - 7] + high;
             }
-        }
-
-        private void addBlock() {
-            spreadWords();
             int a = sums[0], b = sums[1], c = sums[2], d = sums[3];
             int e = sums[4], f = sums[5], g = sums[6], h = sums[7];
             for (int i = 0; i < 64; i++) {
@@ -924,9 +918,7 @@ public final class StepShake {
                 swapped = bit;
                 step();
             }
-            if (swapped) {
-                swap();
-            }
+            // The lowest bits of a scalar are 0, so nothing is left swapped.
             invert(z2, a);
             multiply(x2, a, x2);
             pack(x2, out);
@@ -1037,9 +1029,10 @@ public final class StepShake {
         private static void carry(long[] f) {
             long over = 0;
             for (int i = 0; i < LIMBS; i++) {
+                int bits = width(i);
                 long all = f[i] + over;
-                over = all >> width(i);
-                f[i] = all & (1 << width(i)) - 1;
+                over = all >> bits;
+                f[i] = all & (1 << bits) - 1;
             }
             f[0] += 19 * over;
             f[1] += f[0] >> width(0);
@@ -1050,7 +1043,7 @@ public final class StepShake {
         private static void unpack(int[] from, long[] out) {
             int start = 0;
             for (int i = 0; i < LIMBS; i++) {
-                out[i] = fourBytes(from, start >> 3) >> (start & 7) & (1 << width(i)) - 1;
+                out[i] = bitsOf(from, start, width(i));
                 start += width(i);
             }
         }
@@ -1122,7 +1115,7 @@ public final class StepShake {
             start[2] = 0x79622d32;
             start[3] = 0x6b206574;
             for (int i = 0; i < 8; i++) {
-                start[4 + i] = (int) fourBytes(by, 4 * i);
+                start[4 + i] = (int) bitsOf(by, 32 * i, 32);
             }
             start[13] = 0;
             start[14] = n;
@@ -1203,7 +1196,7 @@ public final class StepShake {
             }
             block[TAG_SIZE] = 0;
             for (int i = 0; i < LIMBS; i++) {
-                factor[i] = blockLimb(i);
+                factor[i] = bitsOf(block, WIDTH * i, WIDTH);
                 sum[i] = 0;
             }
         }
@@ -1260,15 +1253,10 @@ public final class StepShake {
             return (i & 3) == 0 && i > 0 ? 252 : 255;
         }
 
-        private long blockLimb(int i) {
-            int start = WIDTH * i;
-            return fourBytes(block, start >> 3) >> (start & 7) & MASK;
-        }
-
         private void addBlock() {
             block[TAG_SIZE] = 1;
             for (int i = 0; i < LIMBS; i++) {
-                sum[i] += blockLimb(i);
+                sum[i] += bitsOf(block, WIDTH * i, WIDTH);
                 product[i] = 0;
             }
             for (int i = 0; i < LIMBS; i++) {

@@ -36,6 +36,11 @@ public final class PatternTest {
         }
         check.due("a ninth pattern", x.pattern(false, false), -4);
         check.due("count(0)", x.count(0), 8);
+        check.due("message(8)", x.message(8), -2);
+        check.due("token(8, 0)", x.token(8, 0), -2);
+        check.due("fault(8)", x.fault(8), -2);
+        check.due("told(8, 0)", x.told(8, 0), -2);
+        check.due("side(8, ..)", x.side(8, 0, 1, 1, 1), -2);
         for (int i = 0; i < 8; i++) {
             check.due("told(" + i + ", 1)", x.told(i, 1), i & 1);
             check.due("told(" + i + ", 2)", x.told(i, 2), i >> 1 & 1);

@@ -2,7 +2,7 @@ import java.util.Random;
 
 /** Long runs of calls by a fixed seed, all promises mingled, each answer measured by the model's. */
 public final class RandomRunsTest {
-    private static final int RUNS = 400, CALLS = 130;
+    private static final int RUNS = 400, CALLS = 130, FAULT_RUNS = 2000;
     // Each with who is known ahead: 0 nobody, 1 HAND 0, 2 HAND 1, 3 both.
     private static final String[] GOOD = {
         "0e eE", "2eF eE", "0e eEsF", "0e eE sG", "2eF eE sG", "0e eEsF sG", "1e eEG", "3eFS eEG", "1e eEGsF",
@@ -23,6 +23,9 @@ public final class RandomRunsTest {
         Check check = new Check("RandomRunsTest");
         for (int seed = 1; seed <= RUNS && check.wrong() == 0; seed++) {
             new RandomRunsTest(seed, check).run(check);
+        }
+        for (int seed = 1; seed <= FAULT_RUNS && check.wrong() == 0; seed++) {
+            new RandomRunsTest(-seed, check).judgePatterns();
         }
         check.end();
     }
@@ -65,6 +68,30 @@ public final class RandomRunsTest {
                 both.token(number, random.nextInt(6));
             }
             both.fault(number);
+        }
+    }
+
+    /** Good patterns with a token put in, left out or made another, so that each fault comes up. */
+    private void judgePatterns() {
+        for (int i = 0; i < 8; i++) {
+            StringBuilder text = new StringBuilder(GOOD[random.nextInt(GOOD.length)]);
+            int known = random.nextInt(3) == 0 ? random.nextInt(4) : text.charAt(0) - '0';
+            text.deleteCharAt(0);
+            int changes = random.nextInt(4);
+            for (int j = 0; j < changes; j++) {
+                change(text);
+            }
+            both.fault(both.tell((known & 1) != 0, (known & 2) != 0, text.toString()));
+        }
+    }
+
+    private void change(StringBuilder text) {
+        int at = random.nextInt(text.length());
+        char token = "esEFGS ".charAt(random.nextInt(7));
+        switch (random.nextInt(3)) {
+            case 0 -> text.insert(at, token);
+            case 1 -> text.setCharAt(at, token);
+            default -> text.replace(at, at + (text.length() > 1 ? 1 : 0), "");
         }
     }
 

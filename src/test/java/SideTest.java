@@ -80,6 +80,13 @@ public final class SideTest {
         side(x, 0, 0, -1, 1, -3);
         side(x, 0, 2, 1, 1, -2);
         check.due("count(1)", x.count(1), 4);
+        check.due("again(4)", x.again(4), -2);
+        check.due("write(4)", x.write(4), -2);
+        check.due("read(4)", x.read(4), -2);
+        check.due("hash(4, 0)", x.hash(4, 0), -2);
+        check.due("about(4, 0)", x.about(4, 0), -2);
+        check.due("same(4, 0)", x.same(4, 0), -2);
+        check.due("same(0, 4)", x.same(0, 4), -2);
         Calls.tell(x, false, false, "e eE");
         side(x, 1, 0, 1, 1, -4);
         check.due("a side refused as FULL leaves the pattern open", x.message(1), 3);
