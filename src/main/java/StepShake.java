@@ -551,7 +551,7 @@ public final class StepShake {
         private static final String NAME = "Handshake by steps";
 
         private final Sha sha = new Sha();
-        private final Mac mac = new Mac(sha);
+        private final Mac mac = new Mac();
         private final Curve curve = new Curve();
         private final Cipher cipher = new Cipher();
         private final State trial = new State();
@@ -594,7 +594,6 @@ public final class StepShake {
             state.knowsE = false;
             state.hasKey = false;
             state.n = 0;
-            state.takeCount = 0;
             state.messages = 0;
             for (int hand = 0; hand < 2; hand++) {
                 if (side.pattern.isKnownAhead(hand)) {
@@ -843,14 +842,10 @@ public final class StepShake {
     private static final class Mac {
         private static final int BLOCK_SIZE = 64;
 
-        private final Sha sha;
+        private final Sha sha = new Sha();
         private final int[] inner = new int[KEY_SIZE];
         private final int[] middle = new int[KEY_SIZE];
         private final int[] text = new int[KEY_SIZE + 1];
-
-        Mac(Sha sha) {
-            this.sha = sha;
-        }
 
         /** c may be the row that one goes to: it is not looked at any more by then. */
         void makeKeys(int[] c, int[] x, int size, int[] one, int[] two) {

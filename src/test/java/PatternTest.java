@@ -131,6 +131,7 @@ public final class PatternTest {
         fault(false, false, "E", 3);
         fault(false, false, "eE", 3);
         fault(false, false, "e Ee", 3);
+        fault(false, false, "s eE", 3);
         fault(false, false, "e eE", 0);
         fault(false, false, "eF", 3);
         fault(true, false, "eF", 3);
