@@ -2,7 +2,7 @@ import java.util.Random;
 
 /** Long runs of calls by a fixed seed, all promises mingled, each answer measured by the model's. */
 public final class RandomRunsTest {
-    private static final int RUNS = 400, CALLS = 130, FAULT_RUNS = 2000;
+    private static final int RUNS = 1000, FAULT_RUNS = 2000;
     // Each with who is known ahead: 0 nobody, 1 HAND 0, 2 HAND 1, 3 both.
     private static final String[] GOOD = {
         "0e eE", "2eF eE", "0e eEsF", "0e eE sG", "2eF eE sG", "0e eEsF sG", "1e eEG", "3eFS eEG", "1e eEGsF",
@@ -33,7 +33,8 @@ public final class RandomRunsTest {
     private void run(Check check) {
         tellPatterns();
         makeSides();
-        for (int i = 0; i < CALLS && check.wrong() == 0; i++) {
+        // A talk is at most nine calls, and the questions at the end take the rest, up to the last call that counts.
+        while (both.callsLeft() > 210 && check.wrong() == 0) {
             if (random.nextInt(3) > 0) {
                 talk();
             } else {
@@ -41,7 +42,20 @@ public final class RandomRunsTest {
             }
             both.digest();
         }
-        both.askAll();
+        both.ask();
+        while (both.callsLeft() > 0) {
+            askAnything();
+        }
+    }
+
+    private void askAnything() {
+        switch (random.nextInt(6)) {
+            case 0 -> both.told(random.nextInt(10) - 1, random.nextInt(42) - 1);
+            case 1 -> both.fault(random.nextInt(10) - 1);
+            case 2 -> both.hash(random.nextInt(6) - 1, random.nextInt(34) - 1);
+            case 3 -> both.same(random.nextInt(6) - 1, random.nextInt(6) - 1);
+            default -> both.byteOf(random.nextInt(5) - 1, random.nextInt(100) - 1);
+        }
     }
 
     private int edge() {
