@@ -46,6 +46,10 @@ public final class EdgesTest {
                 "05000000000000000000000000000000");
         tag(1, ZEROS, ONES + "fbfefefefefefefefefefefefefefefe" + "01010101010101010101010101010101", ZEROS);
         tag(2, ZEROS, "fdffffffffffffffffffffffffffffff", "faffffffffffffffffffffffffffffff");
+        // Sums of three blocks that are 2^130 - 6, 2^130 - 5 and 2^130 - 4, not in the RFC.
+        tag(1, ZEROS, "fa" + ONES.substring(2) + ZEROS + ZEROS, "fa" + ONES.substring(2));
+        tag(1, ZEROS, "fb" + ONES.substring(2) + ZEROS + ZEROS, ZEROS);
+        tag(1, ZEROS, "fc" + ONES.substring(2) + ZEROS + ZEROS, "01" + ZEROS.substring(2));
     }
 
     private static void numbersOfTheCurve() throws ReflectiveOperationException {

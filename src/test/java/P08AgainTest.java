@@ -155,6 +155,7 @@ public final class P08AgainTest {
             x.write(0);
             x.read(1);
             x.write(1);
+            x.read(0);
         }
         check.due("n", x.about(0, 5), 3);
         x.again(0);
